@@ -95,6 +95,12 @@ public final class PromisesTest {
         CHECKS.same("3 pages are gone", 0, x.pages());
         CHECKS.same("3 trailer is gone", 0, x.trailer(0) + x.trailer(1));
         CHECKS.same("3 what was written stays", size, x.written(-1));
+        Checks.feed(x, "%P\n");
+        CHECKS.same("3 a third scan has its own bytes alone", 0, x.scan());
+        CHECKS.same("3 a third scan", "6@0", Checks.mends(x));
+        Checks.feed(x, FILE);
+        CHECKS.same("3 a fourth scan", 5, x.scan());
+        CHECKS.same("3 a fourth scan", "4 3", Checks.pages(x));
         RepairScan y = new RepairScan();
         Checks.feed(y, " ");
         CHECKS.same("3 scan without objects", 0, y.scan());
@@ -116,7 +122,12 @@ public final class PromisesTest {
         for (int object : new int[] {0, -1, 6, 60, 61, Integer.MIN_VALUE, Integer.MAX_VALUE}) {
             CHECKS.raises("4 object " + object, NoSuchElementException.class, () -> x.found(object, 0));
         }
-        CHECKS.same("4 object 60", 0, Checks.scanned("60 0 obj endobj").found(60, 0));
+        RepairScan last = Checks.scanned("60 0 obj<</Type/Page/A 8 0 R>>endobj");
+        CHECKS.same("4 object 60", 1, last.found(60, 4));
+        CHECKS.same("4 object 60", "9@0 5@0 6@0 8@0", Checks.mends(last));
+        CHECKS.same("4 object 60", "60", Checks.pages(last));
+        last.again();
+        CHECKS.same("4 object 60", "%P\n60 0 obj\n<</Type/Page/A null>>\nendobj\n", Checks.written(last));
         RepairScan y = Checks.scanned("%P\n1 0 obj 5 2 0 obj 6 trailer");
         CHECKS.same("4 ends at the next head", 13, y.found(1, 2));
         CHECKS.same("4 ends at trailer", 23, y.found(2, 2));
@@ -249,6 +260,8 @@ public final class PromisesTest {
         CHECKS.holds("12 a length that counts the byte 10", y.whole(2));
         CHECKS.holds("12 not ended", !y.whole(3));
         CHECKS.holds("12 ended by endobj, whatever it holds", y.whole(4));
+        CHECKS.holds("12 ended by nothing", !Checks.scanned("1 0 obj<</Length 2>>stream\nab").whole(1));
+        CHECKS.holds("12 Length 0", Checks.scanned("1 0 obj<</Length 0>>stream\nendstream endobj").whole(1));
         CHECKS.holds("12 ended by a word", !Checks.scanned("1 0 obj<</Length 9>>stream\nab\nendstream endobj").whole(1));
     }
 

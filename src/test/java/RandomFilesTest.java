@@ -4,7 +4,7 @@ import java.util.Random;
 public final class RandomFilesTest {
     private static final Checks CHECKS = new Checks();
     private static final String[] PIECES = {
-        "1 0 obj", "2 0 obj", "3 0 obj", "1 0 obj<<", "2 0 obj <<", "4 1 obj\n<<", "60 0 obj", "61 0 obj", "0 0 obj",
+        "1 0 obj", "2 0 obj", "3 0 obj", "1 0 obj<<", "2 0 obj <<", "4 1 obj\n<<", "60 0 obj", "60 0 obj<</Type/Page/A 8 0 R>>", "/Pages 60 0 R", "60 0 R", "61 0 obj", "0 0 obj",
         "endobj", "endobj", "endobj\n", ">>", ">>", ">> endobj", "<<", "[", "]", "<", ">", ")", "{", "}", "(a", "(1 0 obj)", "(b)",
         "%c\n", "%c", "\n", " ", "\0", "\t", "/", "/Type", "/Type /Page", "/Type/Page", "/Type /Pages", "/Type/Catalog",
         "/Pages", "/Pages 2 0 R", "/Pages 3 0 R", "/Kids", "/Kids [", "/Kids [3 0 R 4 0 R]", "/Kids[1 0 R[2 0 R]<</A 3 0 R>>]",
@@ -25,11 +25,16 @@ public final class RandomFilesTest {
     };
 
     public static void main(String[] args) {
-        for (int seed = 0; seed < 60000; seed++) {
+        RepairScan x = new RepairScan();
+        for (int seed = 0; seed < 40000; seed++) {
             Random random = new Random(seed);
             String file = seed % 3 == 0 ? broken(random) : pieces(random);
+            if (seed % 5 == 0) {
+                x = new RepairScan();
+            }
+            // Five files in a row on one object: nothing of an earlier scan may be left.
             if (!file.isEmpty()) {
-                compare(seed, file);
+                compare(x, seed, file);
             }
         }
         CHECKS.end("RandomFilesTest");
@@ -70,9 +75,8 @@ public final class RandomFilesTest {
         return file.length() > 1500 ? file.substring(0, 1500) : file.toString();
     }
 
-    private static void compare(int seed, String file) {
+    private static void compare(RepairScan x, int seed, String file) {
         Model due = new Model(file);
-        RepairScan x = new RepairScan();
         Checks.feed(x, file);
         String at = "seed " + seed + " " + file.replace("\n", "\\n") + ": ";
         CHECKS.same(at + "scan", due.things.size(), x.scan());

@@ -11,6 +11,8 @@ public final class TermsTest {
         streams();
         kinds();
         writtenAnew();
+        fullestFiles();
+        nothingIsLeft();
         CHECKS.end("TermsTest");
     }
 
@@ -180,5 +182,53 @@ public final class TermsTest {
         anew("%P\n1 0 obj\n<</Length null>>\nendobj\n", "1 0 obj<</Length 9 0 R>>endobj");
         anew("%P\n12 0 obj\n<</Type/Catalog>>\nendobj\ntrailer << /Root 12 0 R >>\n", "12 0 obj<</Type/Catalog>>endobj");
         anew("%P\n1 0 obj\n<</A[1 0 R\nendobj\n", "1 0 obj<</A[1 0 R 2 0 obj");
+    }
+
+    /** As many mends, references, repeated numbers and pairs as 1,500 bytes can hold, several times on one object. */
+    private static void fullestFiles() {
+        RepairScan x = new RepairScan();
+        for (int time = 0; time < 5; time++) {
+            Checks.feed(x, "1 0 obj)".repeat(187));
+            CHECKS.same("repeats: objects", 1, x.scan());
+            CHECKS.same("repeats: mends", 1 + 186 + 185 + 1 + 1, x.mended(-1, 0));
+            CHECKS.same("repeats: twice", 185, x.twice(-1));
+            Checks.feed(x, "1 0 obj<</A[" + "0 0 R ".repeat(246) + "endobj");
+            x.scan();
+            CHECKS.same("references", 246, x.found(1, 4));
+            CHECKS.same("references: mends", 1 + 246 + 1, x.mended(-1, 0));
+            CHECKS.same("references: again", 1, x.again());
+            CHECKS.same("references: written", 3 + 8 + 5 + 246 * 5 - 1 + 8, x.written(-1));
+            Checks.feed(x, "1 0 obj<<" + "/Length/".repeat(180) + ">>stream\nendstream");
+            x.scan();
+            CHECKS.same("lengths", 0, x.stream(1, -1));
+            x.again();
+            CHECKS.same("lengths: written", "%P\n1 0 obj\n<< /Length 0 >> stream\n\nendstream\nendobj\n", Checks.written(x));
+            Checks.feed(x, "trailer<<".repeat(30) + "/A[" + "0 0 R ".repeat(100) + "]/Length/".repeat(30) + " 1 0 obj<</Length/B[0 0 R]/B 0 0 R");
+            Checks.feed(x, " >>stream\nendstream");
+            x.scan();
+            CHECKS.same("trailers", 1, x.found(1, 4));
+            x.again();
+            CHECKS.same("trailers: written", "%P\n1 0 obj\n<< /Length 0 [0 0 R]/B null >> stream\n\nendstream\nendobj\n", Checks.written(x));
+            StringBuilder streams = new StringBuilder();
+            for (int i = 1; i <= 53; i++) {
+                streams.append(i).append(" 0 obj<<>>stream\nendstream");
+            }
+            Checks.feed(x, streams.toString());
+            CHECKS.same("streams", 53, x.scan());
+            CHECKS.same("streams: mends", 1 + 53 + 53 + 1, x.mended(-1, 0));
+            CHECKS.same("streams: again", 1, x.again());
+        }
+    }
+
+    /** A node without kids has none, though an earlier scan found some for it. */
+    private static void nothingIsLeft() {
+        String top = "%P\n60 0 obj<</Type/Catalog/Pages 2 0 R>>endobj 3 0 obj<</Type/Page>>endobj 2 0 obj<</Type/Pages/";
+        RepairScan x = new RepairScan();
+        for (int time = 0; time < 12; time++) {
+            Checks.feed(x, top + (time / 4 % 2 == 0 ? "Kids" : "Sons") + "[3 0 R]>>endobj");
+            x.scan();
+            CHECKS.same("mends of time " + time, time / 4 % 2 == 0 ? "6@0 7@3" : "6@0 7@3 8@0", Checks.mends(x));
+            CHECKS.same("catalogue of time " + time, 60, x.catalogue());
+        }
     }
 }
