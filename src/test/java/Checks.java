@@ -100,4 +100,30 @@ final class Checks {
         }
         return all.toString();
     }
+
+    static String outcome(Call call) {
+        try {
+            return Long.toString(call.answer());
+        } catch (RuntimeException e) {
+            return e.getClass().getSimpleName();
+        }
+    }
+
+    /** What all calls that change nothing answer, of the objects up to one: two equal texts mean an equal state. */
+    static String answers(RepairScan x, int lastObject) {
+        StringBuilder all = new StringBuilder(mends(x));
+        all.append(" catalogue ").append(x.catalogue()).append(" pages ").append(pages(x)).append(" cut ").append(x.cut());
+        all.append(" trailer ").append(x.trailer(0)).append(' ').append(x.trailer(1)).append(" twice ").append(twice(x));
+        for (int number = 0; number <= lastObject; number++) {
+            int object = number;
+            all.append(" object ").append(object);
+            for (int i = 0; i <= 4; i++) {
+                int what = i;
+                all.append(' ').append(outcome(() -> x.found(object, what)));
+            }
+            all.append(' ').append(outcome(() -> x.whole(object) ? 1 : 0));
+            all.append(' ').append(outcome(() -> x.stream(object, -1))).append(' ').append(outcome(() -> x.stream(object, 0)));
+        }
+        return all.append(" written ").append(x.written(-1)).append(' ').append(outcome(() -> x.written(x.written(-1) - 2))).toString();
+    }
 }
