@@ -39,6 +39,7 @@ public final class EdgesOfCallsTest {
         againIsAside();
         bytesAre0To255();
         aCallThatThrowsChangesNothing();
+        nothingOfAnEarlierScanIsLeft();
         CHECKS.end("EdgesOfCallsTest");
     }
 
@@ -513,5 +514,40 @@ public final class EdgesOfCallsTest {
         Checks.feed(full, " ".repeat(1500));
         CHECKS.same("add throws", "UnsupportedOperationException", outcomeOfAdd(full, 0));
         CHECKS.same("an add that throws changes nothing", scanned, Checks.answers(full, 2));
+    }
+
+    /** Promise 5: "Of the latest scan", and so for all calls: each file behind each other one answers as on a new object. */
+    private static void nothingOfAnEarlierScanIsLeft() {
+        String[] files = {FILE, "%", "%P\n1 0 obj", "1 0 obj endobj 1 0 obj endobj", "1 0 obj<<>>endobj 2 0 obj<</Type/Pages>>endobj 1 0 obj<</Type/Catalog>>endobj",
+            "1 0 obj<</Type/Catalog/Pages 2 0 R>>endobj 2 0 obj<</Type/Pages/Kids[3 0 R]>>endobj 3 0 obj<</Type/Page>>endobj trailer<</Root 1 0 R>>",
+            "%P\n2 0 obj<</Type/Pages/Kids[1 0 R 3 0 R]>>endobj 3 0 obj<</Type/Page>>endobj 1 0 obj<</Type/Catalog>>endobj trailer<</Size 4>>",
+            "%P\n1 0 obj<</Length 2/A 9 0 R>>stream\nabendstream endobj 2 0 obj<<>>stream\nendstream", "%P\n1 0 obj<<>>stream\nab endstream endobj 2 0 obj endobj",
+            "%P\n1 0 obj endobj 2 0 obj endobj 3 0 obj endobj 60 0 obj endobj 1 0 obj<<", "%P\n1 0 obj<</Length 5/Length 6>>endobj 2 0 obj<</A/B>>stream\nendstreamendobj",
+            "1 0 obj<<>>endobj", "1 0 obj<</A stream\nb endobj", "2 0 obj<</Type/Pages/Kids[2 0 R]>>endobj 1 0 obj<</Type/Catalog/Pages[2 0 R]>>endobj",
+            "trailer<</Root 2 0 R", "trailer<</Root 2 0 ", "1 0 obj<</Length 3>>stream\nabc\nendstrea"};
+        for (String earlier : files) {
+            for (String later : files) {
+                // Twice, for a class that keeps two rows and uses them in turn.
+                RepairScan x = Checks.scanned(earlier);
+                Checks.feed(x, earlier);
+                x.scan();
+                CHECKS.same("again of " + earlier, Checks.scanned(earlier).again(), x.again());
+                Checks.feed(x, later);
+                RepairScan fresh = Checks.scanned(later);
+                CHECKS.same("scan of " + later + " behind " + earlier, count(fresh), x.scan());
+                CHECKS.same("again of " + later + " behind " + earlier, fresh.again(), x.again());
+                CHECKS.same(later + " behind " + earlier, Checks.answers(fresh, 3), Checks.answers(x, 3));
+                CHECKS.same("written of " + later + " behind " + earlier, Checks.written(fresh), Checks.written(x));
+            }
+        }
+    }
+
+    private static int count(RepairScan x) {
+        int count = 0;
+        for (int i = 1; i <= 60; i++) {
+            int object = i;
+            count += Checks.outcome(() -> x.found(object, 0)).equals("NoSuchElementException") ? 0 : 1;
+        }
+        return count;
     }
 }

@@ -192,7 +192,7 @@ public final class EdgesOfTermsTest {
             String text = "<</Length " + one + ">>stream\n";
             stream("a", true, "6@0", text + "aendstream endobj");
         }
-        String[] none = {"0000001", "1000000", "+1", "-1", "1.", ".1", "1e", "x1", "1\u0080", "(1)", "/1", "[1]", "1a", "\u00b9"};
+        String[] none = {"0000001", "1000000", "+1", "-1", "1.", ".1", "1e", "x1", "1\u0080", "(1)", "/1", "[1]", "1a", "1:", ":", "1!", "\u00b9"};
         for (String other : none) {
             objects(0, "%P\n" + other + " 0 obj endobj");
             objects(0, "%P\n1 " + other + " obj endobj");
@@ -275,6 +275,7 @@ public final class EdgesOfTermsTest {
         mends("6@0", "%P\n1 0 obj endobj endobj trailer endobj trailer");
         mends("1@12 6@0", "%P\n1 0 obj[[2 0 obj]]endobj");
         mends("1@15 6@0", "%P\n1 0 obj<</A trailer>>endobj");
+        mends("1@15 6@0", "%P\n2 0 obj<</A 1 0 obj>>endobj");
         mends("1@14 6@0", "%P\n1 0 obj 12 2 0 obj endobj");
     }
 
@@ -317,6 +318,15 @@ public final class EdgesOfTermsTest {
         CHECKS.same(says + ": nothing of the earlier one", "9@0 3@51 4@0 6@0", Checks.mends(x));
         CHECKS.same(says + ": nothing of the earlier one", 0, x.found(1, 4));
         CHECKS.raises(says + ": nothing of the earlier one", NoSuchElementException.class, () -> x.stream(1, -1));
+        String earlier = "";
+        for (int times = 1; times <= 3; times++) {
+            earlier += "1 0 obj<</Type/Catalog/Pages 2 0 R/Kids 3 0 R/Length 0>>stream\nendstream endobj ";
+            String rest = "endobj 2 0 obj<</Type/Pages/Kids 3 0 R>>endobj 3 0 obj<</Type/Page>>endobj trailer<</Root 1 0 R>>";
+            String told = "4@3 4@83 4@163 ".substring(0, times == 1 ? 4 : times == 2 ? 9 : 15);
+            pages("3", told + "8@0", "%P\n" + earlier + "1 0 obj<</Type/Catalog>>" + rest);
+            pages("3", told + "8@0", "%P\n" + earlier + "1 0 obj<</Type/Pages>>" + rest.replace("1 0 R", "4 0 R") + "4 0 obj<</Type/Catalog/Pages 1 0 R>>endobj");
+            stream(null, false, told.substring(0, told.length() - 1) + " 6@0", earlier.substring(7) + "1 0 obj<</Type/Other/A stream\nendstream endobj");
+        }
     }
 
     private static void oneThatIsCutDoesNotCount() {
@@ -451,11 +461,13 @@ public final class EdgesOfTermsTest {
             found("1", open + "/B 1 0 " + end + " R>>", 4);
             found("3", open + "/Type " + end + " 1 0 R>>", 3);
             found("0", "%P\n1 0 obj<< " + end, 3);
+            found("1", open + end.replace("2 0 obj", "60 0 obj") + "/B 1 0 R>>", 4);
             found("0", "%P\n1 0 obj " + end + "<</Type/Page>>", 3);
             RepairScan x = Checks.scanned(open + end + ">>stream\nendstream");
             CHECKS.raises(says + ": no stream behind " + end, NoSuchElementException.class, () -> x.stream(1, -1));
         }
         found("0", "%P\n1 0 obj<</A[/Type/Page endobj", 3);
+        CHECKS.same(says + ": also before a head of 1", 0, Checks.scanned("2 0 obj<</A[1 0 obj/Type/Page]/B 1 0 R>>endobj").found(2, 4));
         anew("%P\n1 0 obj\n<</A[null\nendobj\n", "%P\n1 0 obj<</A[9 0 R endobj 9 0 R]>>");
     }
 
@@ -474,6 +486,8 @@ public final class EdgesOfTermsTest {
             stream(null, false, "6@0", none + "a\nendstream endobj");
         }
         stream(null, false, "6@0", "<<>>endobj stream\nendstream");
+        mends("6@0", "%P\nstream\n1 0 obj 5 endobj");
+        mends("6@0", "%P\n<<>>stream\n1 0 obj 5 endobj");
         stream("a", true, "6@0", "<</Length 1>>stream\na\nendstream stream\nb\nendstream<<>>stream\nc\nendstream endobj");
         stream("", false, "3@21 2@21 6@0", "<<>>stream\n");
     }
@@ -501,6 +515,9 @@ public final class EdgesOfTermsTest {
         for (String length : new String[] {"0", "1", "2", "5", "6", "13", "14", "999", "999999", "x", "(3)", "/3", "[3]", "-3", "3.", "<<>>", "1 0 R", "1 3 R", "0000003"}) {
             String text = "<</Length " + length + ">>stream\n";
             stream("abc", false, "3@" + (10 + text.length()) + " 6@0", text + "abc\nendstream endobj");
+            if (!length.equals("0")) {
+                stream("", false, "3@" + (10 + text.length()) + " 6@0", text + "endstream endobj");
+            }
         }
         for (String length : new String[] {"3", "4", "03", "000004"}) {
             String text = "<</Length " + length + ">>stream\n";
@@ -648,6 +665,8 @@ public final class EdgesOfTermsTest {
         mends("5@3 6@0", "%P\n1 0 obj<</A 61 0 R>>endobj 61 0 obj endobj");
         mends("5@3 6@0", "%P\n1 0 obj<</A 999999 0 R>>endobj");
         mends("5@3 5@3 6@0", "%P\n1 0 obj<</A 9 0 R/B 9 0 R>>endobj");
+        mends("5@3 6@0", "%P\n60 0 obj<</A 9 0 R>>endobj");
+        mends("6@0", "%P\n60 0 obj<</A 1 0 R>>endobj 1 0 obj<</A 60 0 R>>endobj");
         mends("5@29 5@3 6@0", "%P\n2 0 obj<</A 9 0 R>>endobj 1 0 obj<</A 9 0 R>>endobj");
         mends("4@3 6@0", "%P\n1 0 obj<</A 9 0 R>>endobj 1 0 obj endobj");
         mends("10@29 5@3 6@0", "%P\n1 0 obj<</A 9 0 R>>endobj 9 0 obj");
@@ -709,6 +728,11 @@ public final class EdgesOfTermsTest {
         pages("4 3", "", top + "[5 0 R 3 0 R 4 0 R]" + page3 + page4 + "5 0 obj<</Type/Pages/Kids[4 0 R 2 0 R 5 0 R]>>endobj");
         pages("4 3", "", top + "[5 0 R 5 0 R 3 0 R]" + page3 + page4 + "5 0 obj<</Type/Pages/Kids[6 0 R]>>endobj 6 0 obj<</Type/Pages/Kids[5 0 R 4 0 R]>>endobj");
         pages("3 4", "", top + "<</A[3 0 R]/B 4 0 R>>" + page3 + page4);
+        pages("3 4", "8@0", top + "[3 0 R]/A 4 0 R" + page3 + page4);
+        pages("3 4", "8@0", (top + "[3 0 R]" + page3 + page4).replace("/Kids", "/A 4 0 R/Kids"));
+        pages("3", "8@0", top + "[5 0 R]" + page3 + "5 0 obj<</Kids[3 0 R]>>endobj");
+        pages("3", "8@0", top + "[5 0 R]" + page3 + "5 0 obj<</Type/Catalog/Kids[3 0 R]>>endobj");
+        pages("3 4", "8@0", top + "[3 0 R]" + page3 + page4 + "5 0 obj<</Type/Pages/Kids[4 0 R]>>endobj");
         pages("", "", top + "[]>>endobj");
         pages("", "", top + ">>endobj");
         pages("", "", top + "[2 0 R]>>endobj");
@@ -730,6 +754,7 @@ public final class EdgesOfTermsTest {
         pages("4 5", "8@0", file.replace("Pages 2 0 R", "Pages[2 0 R]"));
         pages("4 5", "8@0", file.replace("Pages 2 0 R", "Pages 4 0 R"));
         pages("4 5", "6@0 8@0", file.replace("Catalog", "Catalogue"));
+        pages("3", "8@0", "%P\n2 0 obj<</Type/Catalog>>endobj 1 0 obj<</Type/Pages/Kids 3 0 R>>endobj 3 0 obj<</Type/Page>>endobj trailer<</Root 2 0 R>>");
         pages("5", "4@143", file + "4 0 obj endobj");
     }
 
@@ -779,6 +804,8 @@ public final class EdgesOfTermsTest {
         anew("%P\n1 0 obj\n<< /Length 0 /A 1 0 R/B null" + end, "1 0 obj<</Length 9 0 R/A 1 0 R/Length[9 0 R]/B 9 0 R>>stream\n");
         anew("%P\n1 0 obj\n<< /Length 0 /Length" + end, "1 0 obj<</Length 5/Length>>stream\n");
         anew("%P\n1 0 obj\n<</Length 5>>\nendobj\n", "1 0 obj<</Length 5>>endobj");
+        anew("%P\n1 0 obj\n<< /Length 1 >> stream\na\nendstream\nendobj\n2 0 obj\n<< /Length 2 /A 1 0 R>> stream\nbc\nendstream\nendobj\n",
+                "2 0 obj<</Length 7/A 1 0 R>>stream\nbcendstream 1 0 obj<</Length 1>>stream\naendstream endobj");
         anew("%P\n1 0 obj\n<< /Length 10 >> stream\n0123456789\nendstream\nendobj\n", "1 0 obj<</Length 3>>stream\n0123456789\nendstream endobj");
         anew("%P\n1 0 obj\n<< /Length 100 >> stream\n" + "a".repeat(100) + "\nendstream\nendobj\n", "1 0 obj<<>>stream\n" + "a".repeat(100));
     }

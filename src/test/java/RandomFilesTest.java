@@ -37,7 +37,23 @@ public final class RandomFilesTest {
                 compare(x, seed, file);
             }
         }
+        everyBeginning();
         CHECKS.end("RandomFilesTest");
+    }
+
+    /** Files that break off at each of their places, on an object that has had the whole file before. */
+    private static void everyBeginning() {
+        for (String file : FILES) {
+            for (int size = 1; size <= file.length(); size++) {
+                RepairScan x = new RepairScan();
+                for (int time = 0; time < 2; time++) {
+                    Checks.feed(x, file);
+                    x.scan();
+                }
+                compare(x, size, file.substring(0, size));
+                compare(x, size, file.substring(file.length() - size));
+            }
+        }
     }
 
     private static String pieces(Random random) {
